@@ -636,7 +636,6 @@ public final class Meniscus {
             smashed = true;
             filled = false;
             inside = 0;
-            certificateEnd = NONE;
         }
 
         int mercuryInside() {
@@ -692,8 +691,9 @@ public final class Meniscus {
             return greatestLevel;
         }
 
+        /** Heat ends the certificate held then; a smashed bulb has none that holds, whenever it was given. */
         boolean holdsCertificateOn(int day) {
-            return day <= certificateEnd;
+            return !smashed && day <= certificateEnd;
         }
 
         boolean isInBounds() {

@@ -19,6 +19,7 @@ public final class BathsTest {
         promise29CertifyNot();
         promise30IsCertified();
         promise30CertificatesThatEnd();
+        promise30CertificatesOfSmashedOnes();
         promise31BreakThread();
         promise31BrokenThreadsRead();
         promise32IsBroken();
@@ -261,6 +262,24 @@ public final class BathsTest {
         Checks.due("isCertified, given behind the heat", true, () -> x.isCertified(0));
         x.smash(0);
         Checks.due("isCertified, smashed", false, () -> x.isCertified(0));
+    }
+
+    private static void promise30CertificatesOfSmashedOnes() {
+        Meniscus x = tested('h', 3);
+        x.smash(0);
+        Checks.due("isCertified, smashed, none given", false, () -> x.isCertified(0));
+        Checks.due("certify, smashed", 360, () -> x.certify(0));
+        Checks.due("isCertified, given behind the smash", false, () -> x.isCertified(0));
+        x.days(40);
+        Checks.due("certify, smashed, anew", 400, () -> x.certify(0));
+        Checks.due("isCertified, given anew behind the smash", false, () -> x.isCertified(0));
+        Meniscus y = tested('s', 3);
+        y.certify(0);
+        y.smash(0);
+        y.certify(0);
+        Checks.due("isCertified, given ahead of the smash and behind it", false, () -> y.isCertified(0));
+        y.days(1);
+        Checks.due("isCertified, a day behind the smash", false, () -> y.isCertified(0));
     }
 
     private static void promise31BreakThread() {

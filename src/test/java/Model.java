@@ -240,7 +240,6 @@ final class Model {
         spilt += g.liquid == 'm' ? was : 0;
         g.smashed = true;
         g.in = 0;
-        g.certifiedUpTo = null;
         return was;
     }
 
@@ -384,7 +383,7 @@ final class Model {
     }
 
     private boolean isCertified(Glass g) {
-        return g.certifiedUpTo != null && day <= g.certifiedUpTo;
+        return !g.smashed && g.certifiedUpTo != null && day <= g.certifiedUpTo;
     }
 
     private static int breakThread(Glass g, int gap) {

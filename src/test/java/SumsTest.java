@@ -133,6 +133,8 @@ public final class SumsTest {
         x.certify(2);
         x.smash(2);
         Checks.due("certifiedShare, smashed ones counted", 2.0f / 3.0f, x::certifiedShare);
+        x.certify(2);
+        Checks.due("certifiedShare, given behind a smash", 2.0f / 3.0f, x::certifiedShare);
         x.days(121);
         Checks.due("certifiedShare, one ended", 1.0f / 3.0f, x::certifiedShare);
     }
