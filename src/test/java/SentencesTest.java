@@ -7,6 +7,7 @@ public final class SentencesTest {
         Answers.all();
         Ranges.all();
         Refusals.all();
+        Sound.all();
         Document.end();
         Checks.end();
     }

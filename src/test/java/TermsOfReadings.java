@@ -92,6 +92,8 @@ final class TermsOfReadings {
         Checks.no(UNSUPPORTED, () -> small(18), x -> x.divide(0, 'v'));
         Checks.yes(1, () -> small(17), x -> x.divide(0, 'l'));
         Checks.yes(1, () -> small(17), x -> x.divide(0, 'v'));
+        Checks.yes(1000, () -> small(17), x -> x.divide(0, 'l') > 0 ? x.readsAt(0, 1) : 0);
+        Checks.yes(200000, () -> small(17), x -> x.divide(0, 'v') > 0 ? x.readsAt(0, 200) : 0);
 
         Document.tell("Points", "by 'l' length or 'v' volume,");
         Checks.kinds("lv", Works::pointed, (x, kind) -> x.divide(0, kind));
